@@ -495,7 +495,6 @@ public final class TripGuard {
                 failed++;
             }
             channel = NONE;
-            sent = false;
         }
     }
 

@@ -32,6 +32,7 @@ public final class P01NewObjectTest {
                 ticks++;
             }
             check.same("debounce " + pair[0] + " sets after", ticks, pair[1]);
+            check.same("debounce " + pair[0] + " sets no other", x.channel(2, 2) + x.channel(1, 2), 1);
         }
     }
 

@@ -9,6 +9,7 @@ public final class P07TestTest {
         aFaultWithoutTheBitFailsIt(check);
         aFaultWithTheBitPassesIt(check);
         faultsOnAllLinksFailIt(check);
+        bitsOfTestsAreNoDemand(check);
         theBitIsSentOnce(check);
         oneAfterTheOther(check);
         wrongInputs(check);
@@ -106,6 +107,18 @@ public final class P07TestTest {
         Check.ticks(x, 2);
         check.same("the test ends in the tick behind the next", Check.events(x, 0),
                 "2:5(0,0) 2:5(1,0) 2:5(2,0) 2:5(3,0) 2:10(0,0)");
+    }
+
+    private static void bitsOfTestsAreNoDemand(Check check) {
+        TripGuard x = new TripGuard(1);
+        for (int c = 0; c < 4; c++) {
+            x.fault(c, 2, FrameWords.good(1, 0xF8));
+        }
+        x.tick();
+        check.same("tick 2", x.tick(), 0);
+        check.same("votes", x.votes(2, 0), 0);
+        check.same("demands", x.demands(2), 0);
+        check.same("latched", x.latched(2), 0);
     }
 
     private static void theBitIsSentOnce(Check check) {
