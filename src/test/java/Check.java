@@ -5,22 +5,46 @@ final class Check {
         void make();
     }
 
+    /** A call with one number that may throw. */
+    interface NumberCall {
+        void make(int number);
+    }
+
     private int wrong = 0;
     private int looked = 0;
+    private String sentence = "";
+
+    /** Runs the test of one sentence of the document; whatever is not as due in it is told with the sentence. */
+    void sentence(String words, Call test) {
+        sentence = "\"" + words + "\": ";
+        int lookedBefore = looked;
+        try {
+            test.make();
+        } catch (RuntimeException e) {
+            tell("the test was ended by " + e);
+        }
+        if (looked == lookedBefore) {
+            tell("the test looked at nothing");
+        }
+        sentence = "";
+    }
+
+    private void tell(String text) {
+        wrong++;
+        System.out.println(sentence + text);
+    }
 
     void same(String what, long got, long due) {
         looked++;
         if (got != due) {
-            wrong++;
-            System.out.println(what + " answered " + got + ", due is " + due);
+            tell(what + " answered " + got + ", due is " + due);
         }
     }
 
     void same(String what, String got, String due) {
         looked++;
         if (!got.equals(due)) {
-            wrong++;
-            System.out.println(what + " answered " + got + ", due is " + due);
+            tell(what + " answered " + got + ", due is " + due);
         }
     }
 
@@ -41,6 +65,28 @@ final class Check {
 
     void badState(String what, Call call) {
         refused(what, IllegalStateException.class, call);
+    }
+
+    /** Every number from the lowest to the highest is taken; those outside are refused as arguments. */
+    void takesOnly(String what, int lowest, int highest, NumberCall call) {
+        for (int n = lowest; n <= highest; n++) {
+            taken(what + " with " + n, n, call);
+        }
+        int[] outside = {lowest - 1, highest + 1, lowest - 256, highest + 256, lowest + 65536,
+            Integer.MIN_VALUE, Integer.MAX_VALUE};
+        for (int n : outside) {
+            badArgument(what + " with " + n, () -> call.make(n));
+        }
+    }
+
+    private void taken(String what, int n, NumberCall call) {
+        String got = "nothing";
+        try {
+            call.make(n);
+        } catch (RuntimeException e) {
+            got = e.getClass().getName();
+        }
+        same(what + " throws", got, "nothing");
     }
 
     /** The events from a number on, each as time:kind(first,second). */
