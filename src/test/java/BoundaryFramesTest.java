@@ -104,8 +104,8 @@ public final class BoundaryFramesTest {
     private static void everyTime(Check check) {
         TripGuard x = new TripGuard(1);
         x.sense(0, 0, 4001);
-        Check.ticks(x, 510);
-        check.same("all frames of 509 ticks came good", x.figure(2), 0);
+        Check.ticks(x, 509);
+        check.same("all frames of 508 ticks came good", x.figure(2), 0);
         check.same("with the votes", x.votes(3, 0), 7);
         for (int n : new int[] {255, 256, 257}) {
             TripGuard y = new TripGuard(1);
