@@ -24,7 +24,10 @@ public final class BoundaryCallsTest {
         check.sentence("restore: IllegalStateException: none was", () -> restoreOfNone(check));
         check.sentence("no event; it is under way at once", () -> testBegins(check));
         check.sentence("its bit is sent in the next tick, and looked for in the one behind that",
-                () -> testGoesThrough(check));
+                () -> {
+                    testGoesThrough(check);
+                    testOfReplacedFrames(check);
+                });
         check.sentence("test: IllegalArgumentException: no such channel or parameter", () -> badTest(check));
         check.sentence("test: IllegalStateException: a test is under way", () -> secondTest(check));
         check.sentence("test: IllegalStateException: or the channel is bypassed", () -> testOfBypassed(check));
@@ -262,6 +265,29 @@ public final class BoundaryCallsTest {
                 check.same("a bad frame behind that", x.tick(), 1);
                 check.same("passed", x.figure(3), 1);
             }
+        }
+    }
+
+    /** The tick in which its bit is looked for is the same whatever the links bring instead. */
+    private static void testOfReplacedFrames(Check check) {
+        int[] words = {0, 0xFFFFFF, FrameWords.good(1, 0), FrameWords.good(1, 16), FrameWords.good(1, 8)};
+        for (int word : words) {
+            TripGuard x = new TripGuard(1);
+            x.test(2, 0);
+            for (int t = 0; t < 4; t++) {
+                x.fault(2, t, word);
+            }
+            x.tick();
+            check.same("under way", x.figure(6), 2);
+            x.tick();
+            boolean hasItsBit = word == FrameWords.good(1, 8);
+            check.same("ended, all frames being " + word, x.figure(6), -1);
+            check.same("passed", x.figure(3), hasItsBit ? 1 : 0);
+            check.same("not passed", x.figure(4), hasItsBit ? 0 : 1);
+            check.same("the event", x.event(x.figure(1) - 1, 1), hasItsBit ? 9 : 10);
+            x.test(2, 0);
+            Check.ticks(x, 2);
+            check.same("the next one is passed", x.figure(3), hasItsBit ? 2 : 1);
         }
     }
 

@@ -28,6 +28,10 @@ public final class BoundaryReadingsTest {
                 () -> debounce(check));
         check.sentence("else if it is set and the reading is inside, it is not set any more: event 4",
                 () -> notSetAnyMore(check));
+        check.sentence("if the reading is WRONG, .. Otherwise .. else if it is set and the reading is inside",
+                () -> wrongLeavesTheBistable(check));
+        check.sentence("For each channel, and in it each parameter: the reading is WRONG .. Then the BISTABLE",
+                () -> parameterByParameter(check));
         check.sentence("(Events 1 to 4 with the channel and the parameter.)", () -> numbersOfEvents(check));
         check.sentence("The channel's VOTES have bit p if the bistable of parameter p is set or its reading is WRONG",
                 () -> votes(check));
@@ -258,6 +262,58 @@ public final class BoundaryReadingsTest {
             String numbers = "(0," + p + ")";
             check.same("events", Check.events(x, 0), "3:3" + numbers + " 5:4" + numbers);
         }
+    }
+
+    private static void wrongLeavesTheBistable(Check check) {
+        for (int c = 0; c < 4; c++) {
+            for (int p = 0; p < 3; p++) {
+                TripGuard x = new TripGuard(1);
+                x.sense(c, p, BEYOND[p]);
+                x.tick();
+                x.sense(c, p, FIRST[p]);
+                check.same("wrong and inside: event 1 alone", x.tick(), 1);
+                check.same("it is wrong", x.channel(c, 1), 1 << p);
+                check.same("it stays set", x.channel(c, 2), 1 << p);
+                check.same("inside and not wrong: events 2 and 4", x.tick(), 2);
+                check.same("not set", x.channel(c, 2), 0);
+                String numbers = "(" + c + "," + p + ")";
+                check.same("events", Check.events(x, 0),
+                        "1:3" + numbers + " 2:1" + numbers + " 3:2" + numbers + " 3:4" + numbers);
+            }
+        }
+        TripGuard stale = new TripGuard(1);
+        stale.sense(0, 2, 2901);
+        Check.ticks(stale, 13);
+        stale.sense(0, 0, 1000);
+        stale.sense(0, 1, 2200);
+        stale.tick();
+        check.same("inside by the limit, but not new for 13 ticks", stale.limit(0, 2), 3300);
+        check.same("wrong by the step and by age", stale.channel(0, 1), 5);
+        check.same("it stays set", stale.channel(0, 2), 4);
+        stale.sense(0, 2, 2901);
+        stale.tick();
+        check.same("new and inside", stale.channel(0, 2), 0);
+    }
+
+    private static void parameterByParameter(Check check) {
+        TripGuard x = new TripGuard(1);
+        // Of two channels one is bypassed, so that no demand comes between their events and the last ones.
+        x.bypass(3);
+        for (int c = 1; c < 4; c += 2) {
+            x.sense(c, 0, 4001);
+            x.sense(c, 1, 49);
+            x.sense(c, 2, 1000);
+        }
+        x.tick();
+        check.same("wrong", Check.events(x, 1), "1:1(1,0) 1:1(1,1) 1:1(3,0) 1:1(3,1)");
+        for (int c = 1; c < 4; c += 2) {
+            x.sense(c, 0, 4000);
+            x.sense(c, 1, 50);
+            x.sense(c, 2, 1013);
+        }
+        check.same("events", x.tick(), 10);
+        check.same("not wrong, and set at once", Check.events(x, 5), "2:2(1,0) 2:3(1,0) 2:2(1,1) 2:3(1,1) 2:3(1,2)"
+                + " 2:2(3,0) 2:3(3,0) 2:2(3,1) 2:3(3,1) 2:3(3,2)");
     }
 
     private static void numbersOfEvents(Check check) {

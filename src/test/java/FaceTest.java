@@ -7,12 +7,24 @@ import java.util.TreeSet;
 
 /** The public face is the document's, and nothing else of the class can be reached from outside. */
 public final class FaceTest {
+    private static final String ARGUMENT = "java.lang.IllegalArgumentException";
+    private static final String STATE = "java.lang.IllegalStateException";
     private static final String[] FACE = {
-        "boolean tripped()",
-        "int channel(int,int)", "int demands(int)", "int event(int,int)", "int figure(int)",
-        "int latched(int)", "int limit(int,int)", "int tick()", "int votes(int,int)",
-        "void bypass(int)", "void fault(int,int,int)", "void reset(int)", "void restore()",
-        "void sense(int,int,int)", "void test(int,int)",
+        "boolean tripped() throws ()",
+        "int channel(int,int) throws (" + ARGUMENT + ")",
+        "int demands(int) throws (" + ARGUMENT + ")",
+        "int event(int,int) throws (java.util.NoSuchElementException," + ARGUMENT + ")",
+        "int figure(int) throws (" + ARGUMENT + ")",
+        "int latched(int) throws (" + ARGUMENT + ")",
+        "int limit(int,int) throws (" + ARGUMENT + ")",
+        "int tick() throws ()",
+        "int votes(int,int) throws (" + ARGUMENT + ")",
+        "void bypass(int) throws (" + ARGUMENT + "," + STATE + ")",
+        "void fault(int,int,int) throws (" + ARGUMENT + ")",
+        "void reset(int) throws (" + ARGUMENT + "," + STATE + ")",
+        "void restore() throws (" + STATE + ")",
+        "void sense(int,int,int) throws (" + ARGUMENT + ")",
+        "void test(int,int) throws (" + ARGUMENT + "," + STATE + ")",
     };
 
     public static void main(String[] args) {
@@ -22,7 +34,8 @@ public final class FaceTest {
         Set<String> got = new TreeSet<>();
         for (Method m : TripGuard.class.getDeclaredMethods()) {
             if (!Modifier.isPrivate(m.getModifiers())) {
-                got.add(m.getReturnType().getName() + " " + m.getName() + parameters(m.getParameterTypes()));
+                got.add(m.getReturnType().getName() + " " + m.getName() + types(m.getParameterTypes())
+                        + " throws " + types(m.getExceptionTypes()));
                 names.add(m.getName());
             }
         }
@@ -40,7 +53,8 @@ public final class FaceTest {
         }
         Constructor<?>[] made = TripGuard.class.getDeclaredConstructors();
         check.same("constructors", made.length, 1);
-        check.same("the constructor takes", parameters(made[0].getParameterTypes()), "(int)");
+        check.same("the constructor takes", types(made[0].getParameterTypes()), "(int)");
+        check.same("the constructor throws", types(made[0].getExceptionTypes()), "()");
         check.same("the constructor is public", Modifier.isPublic(made[0].getModifiers()) ? 1 : 0, 1);
         for (Field f : TripGuard.class.getDeclaredFields()) {
             check.same(f.getName() + " is private", Modifier.isPrivate(f.getModifiers()) ? 1 : 0, 1);
@@ -50,7 +64,7 @@ public final class FaceTest {
         check.finish();
     }
 
-    private static String parameters(Class<?>[] types) {
+    private static String types(Class<?>[] types) {
         StringBuilder text = new StringBuilder("(");
         for (int i = 0; i < types.length; i++) {
             text.append(i > 0 ? "," : "").append(types[i].getName());
